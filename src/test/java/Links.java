@@ -40,12 +40,14 @@ final class Links {
         }
     }
 
-    /** Fills the fabric up with ACKs for pair 2, which is RESET, so that they change nothing. */
-    static void crowd(RemoteReach x, int upTo) {
-        if (x.packets() == 0) {
-            throw new AssertionError("there is nothing to copy");
-        }
-        while (x.packets() < upTo) {
+    /** Fills an empty fabric with packets for pair 3, which is RESET, so that they change nothing. */
+    static void crowd(RemoteReach x, int n) {
+        x.reset(2);
+        x.ready(2, 0, 0);
+        x.send(2, 0, 1);
+        x.push(2);
+        x.reset(2);
+        for (int i = 1; i < n; i++) {
             x.spoil(0, true);
         }
     }
