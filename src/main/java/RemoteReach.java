@@ -117,13 +117,15 @@ public final class RemoteReach {
         return pairs[q].requester.post(SEND, from, n, NONE, NONE, 0);
     }
 
-    public int move(int q, boolean reads, int here, int n, int region, int place) throws IllegalArgumentException, IllegalStateException {
+    public int move(int q, boolean reads, int here, int n, int region, int place)
+            throws IllegalArgumentException, IllegalStateException {
         require(isPair(q) && areCells(here, n) && isRegion(region) && isCell(place));
         requireState(pairs[q].takesRequests());
         return pairs[q].requester.post(reads ? READ : WRITE, here, n, region, place, 0);
     }
 
-    public int add(int q, int here, int region, int place, int v) throws IllegalArgumentException, IllegalStateException {
+    public int add(int q, int here, int region, int place, int v)
+            throws IllegalArgumentException, IllegalStateException {
         require(isPair(q) && isCell(here) && isRegion(region) && isCell(place));
         requireState(pairs[q].takesRequests());
         return pairs[q].requester.post(ADD, here, 1, region, place, v);
@@ -149,7 +151,7 @@ public final class RemoteReach {
     }
 
     public boolean spoil(int k, boolean copy) {
-        if (!fabric.has(k) || copy && fabric.isFull()) {
+        if (!fabric.has(k) || (copy && fabric.isFull())) {
             return false;
         }
         if (copy) {
@@ -827,6 +829,7 @@ public final class RemoteReach {
         }
 
         int takeSend(Packet packet) {
+            // A start within a message, or a part without a start, is no part of what is awaited.
             if (packet.isFirst() == begun) {
                 return DONE;
             }
@@ -975,6 +978,7 @@ public final class RemoteReach {
             return true;
         }
 
+        /** RESTING is left as it is: the document ends it by the clock, an answer or a reset alone. */
         void fail(int requestStatus, int receiveStatus) {
             state = FAILED;
             requester.requests.completeAll(requestStatus);

@@ -21,6 +21,8 @@ public final class AnswersComeTest {
         failsAfterAccess();
         failsAfterLength();
         completesInOrder();
+        completesAllAtOnce();
+        failsWithFullQueues();
         check.end();
     }
 
@@ -328,6 +330,43 @@ public final class AnswersComeTest {
         check.same("state", 2, x.pair(0, 0));
         check.completion("the first", x, 0, 0, 0, 0, 4, 2);
         check.completion("the other", x, 0, 0, 3, 1, 5, 1);
+    }
+
+    private static void completesAllAtOnce() {
+        RemoteReach x = open(0);
+        for (int i = 0; i < 4; i++) {
+            x.move(0, false, 0, i + 1, 0, 0);
+        }
+        Links.pushAll(x, 0);
+        for (int i = 0; i < 4; i++) {
+            x.deliver(0);
+        }
+        x.deliver(3);
+        check.same("requests", 0, x.pair(0, 5));
+        for (int i = 0; i < 4; i++) {
+            check.completion("in order", x, 0, 0, 1, i, 0, i + 1);
+        }
+        Links.deliverAll(x);
+        check.same("the other ACKs are dropped", 0, x.completions(0));
+    }
+
+    private static void failsWithFullQueues() {
+        RemoteReach x = open(0);
+        for (int i = 0; i < 4; i++) {
+            x.move(0, false, 0, i + 1, 3, 0);
+            x.receive(0, 0, 1);
+        }
+        x.push(0);
+        Links.deliverAll(x);
+        check.same("state", 2, x.pair(0, 0));
+        for (int i = 0; i < 4; i++) {
+            check.completion("requests first", x, 0, 0, 1, i, i == 0 ? 3 : 5, i + 1);
+        }
+        for (int i = 0; i < 4; i++) {
+            check.completion("then receives", x, 0, 0, 4, i, 5, 0);
+        }
+        check.same("requests", 0, x.pair(0, 5));
+        check.same("receives", 0, x.pair(0, 6));
     }
 
     private static void completesInOrder() {

@@ -111,8 +111,9 @@ public final class PairTest {
         }
         check.same("no completions", 0, x.completions(0));
         check.yes("reset of a RESET pair", x.reset(0));
-        x.ready(0, 1, 2);
-        check.numbers("ready again", x, 0, 1, 1, 1, 2);
+        x.ready(0, 10, 2);
+        check.numbers("ready again", x, 0, 10, 10, 10, 2);
+        check.same("nothing of before is sent", -1, x.push(0));
         check.same("request serials anew", 0, x.send(0, 0, 1));
         check.same("receive serials anew", 0, x.receive(0, 0, 1));
     }
@@ -130,6 +131,27 @@ public final class PairTest {
         x.push(0);
         check.same("clock and tries anew", 0, x.tick() + x.tick() + x.tick());
         check.same("still READY", 1, x.pair(0, 0));
+
+        RemoteReach w = Links.linked(5, 2, 1);
+        for (int i = 0; i < 2; i++) {
+            w.send(0, 0, 1);
+            w.push(0);
+            Links.deliverAll(w);
+            check.same("NOT READYs anew", 1, w.pair(0, 0));
+            w.reset(0);
+            w.ready(0, 0, 0);
+        }
+
+        RemoteReach v = Links.linked(5, 2, 2);
+        v.send(0, 0, 8);
+        Links.pushAll(v, 0);
+        v.spoil(1, true);
+        v.deliver(1);
+        check.same("a NAK SEQUENCE", 3, v.packets());
+        v.reset(1);
+        v.ready(1, 0, 0);
+        v.deliver(1);
+        check.same("a NAK SEQUENCE anew", 3, v.packets());
 
         RemoteReach y = Links.linked(5, 2, 2);
         y.region(1, 0, 0, 32, 7);

@@ -7,6 +7,7 @@ public final class RequestsComeTest {
         dropsWhatComesToAPairThatIsNotReady();
         takesAMessage();
         takesOneReceiveForEachMessage();
+        takesMessagesOneAfterTheOther();
         refusesAMessageWithoutAReceive();
         refusesAMessageThatIsTooLong();
         refusesALaterPartThatIsTooLong();
@@ -23,6 +24,7 @@ public final class RequestsComeTest {
         acknowledgesTheLatestForACopy();
         answersACopyOfARead();
         answersACopyOfAnAdd();
+        answersNoAddThatItNeverDid();
         makesRoomByComing();
         losesAnswersWithoutRoom();
         check.end();
@@ -108,6 +110,21 @@ public final class RequestsComeTest {
         check.completion("first", x, 1, 1, 4, 0, 0, 1);
         check.completion("second", x, 1, 1, 4, 1, 0, 5);
         check.completion("third", x, 1, 1, 4, 2, 0, 5);
+    }
+
+    private static void takesMessagesOneAfterTheOther() {
+        RemoteReach x = open(0);
+        for (int i = 0; i < 10; i++) {
+            Links.fill(x, 0, 0, 5, 100 * i);
+            check.same("serial", i, x.receive(1, 8, 6));
+            x.send(0, 0, 5);
+            Links.pushAll(x, 0);
+            Links.deliverAll(x);
+            check.same("its first cell", 100 * i, x.cell(1, 8));
+            check.same("its last cell", 100 * i + 4, x.cell(1, 12));
+            check.completion("the receive", x, 1, 1, 4, i, 0, 5);
+            check.completion("the request", x, 0, 0, 0, i, 0, 5);
+        }
     }
 
     private static void refusesAMessageWithoutAReceive() {
@@ -432,6 +449,19 @@ public final class RequestsComeTest {
         x.deliver(0);
         check.same("the same as before", 101, x.cell(0, 20));
         check.same("the same as before", 102, x.cell(0, 21));
+    }
+
+    private static void answersNoAddThatItNeverDid() {
+        RemoteReach x = new RemoteReach(5, 2, 2);
+        x.region(1, 0, 0, 32, 7);
+        x.ready(0, 0, 0);
+        x.ready(1, 0, 1);
+        x.add(0, 0, 0, 0, 1);
+        x.push(0);
+        x.deliver(0);
+        check.same("no REPLY", 0, x.packets());
+        check.same("not added", 0, x.cell(1, 0));
+        check.same("state", 1, x.pair(1, 0));
     }
 
     private static void makesRoomByComing() {

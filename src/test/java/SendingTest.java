@@ -92,6 +92,7 @@ public final class SendingTest {
         Links.tick(x, 2);
         check.same("push", 1, x.push(0));
         check.packet("from the second number on", x, 0, 1, 2, 1, 6, 0, 9);
+        check.numbers("the cursor is behind its numbers", x, 0, 3, 1, 3, 0);
     }
 
     private static void keepsWithinTheWindow() {
