@@ -8,13 +8,39 @@ final class Check {
 
     private int wrong;
     private int asked;
+    private int sentences;
+    private String sentence = "";
+    private int askedBefore;
+
+    /** Names the sentence of the document to which the next answers belong, so that a wrong one tells it. */
+    void sentence(String words) {
+        endSentence();
+        sentences++;
+        sentence = words;
+        askedBefore = asked;
+    }
+
+    /** A sentence for which nothing was asked is not tested, whatever the test's name says. */
+    private void endSentence() {
+        if (!sentence.isEmpty() && asked == askedBefore) {
+            wrong++;
+            System.out.println("nothing was asked for: " + sentence);
+        }
+    }
 
     void same(String what, long due, long got) {
         asked++;
         if (got != due) {
             wrong++;
             System.out.println(what + " answered " + got + ", due is " + due);
+            if (!sentence.isEmpty()) {
+                System.out.println("    for: " + sentence);
+            }
         }
+    }
+
+    void text(String what, String due, String got) {
+        same(what + " (1 as due: " + due + "; is: " + got + ")", 1, got.equals(due) ? 1 : 0);
     }
 
     void yes(String what, boolean got) {
@@ -78,6 +104,10 @@ final class Check {
     }
 
     void end() {
+        endSentence();
+        if (sentences > 0) {
+            System.out.println(sentences + " sentences");
+        }
         System.out.println(asked - wrong + " answers as due, " + wrong + " not");
         if (wrong != 0) {
             System.exit(1);

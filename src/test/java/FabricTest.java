@@ -70,6 +70,7 @@ public final class FabricTest {
 
     /** Every part of a copy, those that packet doesn't tell too, by what it does. */
     private static void keepsCopiesWhole() {
+        check.sentence("Packet k is lost (copy false), or copied: the copy is the last one");
         RemoteReach x = Links.linked(5, 2, 2);
         x.region(1, 0, 0, 32, 7);
         Links.fill(x, 0, 0, 12, 40);
@@ -102,6 +103,7 @@ public final class FabricTest {
     }
 
     private static void keepsTheOrder() {
+        check.sentence("in the order in which they were sent");
         RemoteReach x = withPackets(4);
         x.deliver(0);
         check.same("an answer is the last", 5, x.packet(3, 1));

@@ -11,6 +11,7 @@ public final class NewObjectTest {
     }
 
     private static void isEmpty() {
+        check.sentence("Empty memories, all pairs RESET, an empty fabric.");
         RemoteReach x = new RemoteReach(5, 2, 2);
         check.same("NONE", -1, RemoteReach.NONE);
         check.same("packets()", 0, x.packets());
@@ -29,6 +30,7 @@ public final class NewObjectTest {
     }
 
     private static void limitsTheTimeout() {
+        check.sentence("The TIMEOUT (2 if less, 20 if more)");
         int[] asked = {Integer.MIN_VALUE, 0, 1, 2, 3, 19, 20, 21, Integer.MAX_VALUE};
         int[] due = {2, 2, 2, 2, 3, 19, 20, 20, 20};
         for (int i = 0; i < asked.length; i++) {
@@ -44,6 +46,7 @@ public final class NewObjectTest {
     }
 
     private static void limitsTheTries() {
+        check.sentence("and how many tries, and NOT READYs, are allowed (0 if less, 7 if more)");
         int[] asked = {Integer.MIN_VALUE, -1, 0, 1, 6, 7, 8, Integer.MAX_VALUE};
         int[] due = {0, 0, 0, 1, 6, 7, 7, 7};
         for (int i = 0; i < asked.length; i++) {
@@ -60,6 +63,7 @@ public final class NewObjectTest {
     }
 
     private static void limitsTheRefusals() {
+        check.sentence("and how many tries, and NOT READYs, are allowed (0 if less, 7 if more)");
         int[] asked = {Integer.MIN_VALUE, -1, 0, 1, 6, 7, 8, Integer.MAX_VALUE};
         int[] due = {0, 0, 0, 1, 6, 7, 7, 7};
         for (int i = 0; i < asked.length; i++) {

@@ -119,6 +119,7 @@ public final class PairTest {
     }
 
     private static void forgetsHowFarItWasAfterReset() {
+        check.sentence("A pair is RESET: its queues are empty, without completions, all about it is as at first");
         RemoteReach x = Links.linked(3, 1, 1);
         x.send(0, 0, 1);
         x.push(0);
@@ -181,6 +182,7 @@ public final class PairTest {
     }
 
     private static void resetsNoPairThatIsNotThere() {
+        check.sentence("false if there is no such pair");
         RemoteReach x = new RemoteReach(5, 2, 2);
         for (int q : new int[] {-1, 4, Integer.MIN_VALUE, Integer.MAX_VALUE}) {
             check.no("reset(" + q + ")", x.reset(q));
@@ -188,6 +190,7 @@ public final class PairTest {
     }
 
     private static void keepsCompletionsAndPacketsAtReset() {
+        check.sentence("(serials too; completions that the node has and packets in the fabric stay)");
         RemoteReach x = Links.linked(5, 2, 2);
         x.receive(1, 0, 1);
         x.send(0, 0, 1);

@@ -130,13 +130,13 @@ public final class SendingTest {
     private static void goesRoundAtTheLastNumber() {
         RemoteReach x = Links.linked(5, 2, 2, 62, 0);
         x.region(1, 0, 0, 32, 7);
-        for (int i = 0; i < 40; i++) {
+        for (int i = 0; i < 30; i++) {
             x.move(0, false, 0, 12, 0, 0);
             Links.pushAll(x, 0);
             Links.deliverAll(x);
             check.same("OLDEST", (62 + 3 * (i + 1)) % 64, x.pair(0, 2));
         }
-        check.same("EXPECTED", (62 + 120) % 64, x.pair(1, 4));
+        check.same("EXPECTED", (62 + 90) % 64, x.pair(1, 4));
     }
 
     private static void takesCellsWhenItSends() {
