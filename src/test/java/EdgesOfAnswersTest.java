@@ -51,6 +51,8 @@ public final class EdgesOfAnswersTest {
         setsTheClockWhenAnswered();
         setsTheTriesWhenAnswered();
         setsTheNotReadysWhenAnswered();
+        setsThemWhenAPartOfARequestIsAnswered();
+        setsThemByANakThatAnswersUpToARead();
         setsNothingWhenNothingIsAnswered();
         completesWhenAllNumbersAreAnswered();
         check.end();
@@ -271,10 +273,15 @@ public final class EdgesOfAnswersTest {
                 Links.tick(x, 3);
             }
             check.same("state after one more than " + allowed, 2, x.pair(0, 0));
+            check.same("RESTING since then, which only a reset ends", 1, x.pair(0, 7));
             check.completion("first", x, 0, 0, 0, 0, 2, 7);
             check.completion("other", x, 0, 0, 0, 1, 5, 1);
             check.completion("receive", x, 0, 0, 4, 0, 5, 0);
             check.same("completions", 0, x.completions(0));
+            Links.tick(x, 3);
+            check.same("a FAILED pair's clock doesn't grow", 1, x.pair(0, 7));
+            x.reset(0);
+            check.same("not RESTING", 0, x.pair(0, 7));
         }
     }
 
@@ -413,6 +420,68 @@ public final class EdgesOfAnswersTest {
         y.deliver(0);
         check.same("the first is answered by it, so it is the first NOT READY", 1, y.pair(0, 0));
         check.same("RESTING", 1, y.pair(0, 7));
+    }
+
+    private static void setsThemWhenAPartOfARequestIsAnswered() {
+        check.sentence("When numbers are answered: OLDEST goes behind them, the clock and the numbers of tries and of NOT READYs are 0, it isn't RESTING");
+        for (int kind = 1; kind <= 2; kind++) {
+            RemoteReach x = open(4, 1, 0);
+            Links.post(x, 0, kind, 0, 12, 0, 0);
+            for (int i = 0; i < 3; i++) {
+                x.push(0);
+                Links.loseFrom(x, 0);
+                check.same("kind " + kind + ": a timeout", 0, x.tick() + x.tick() + x.tick() + x.tick());
+                x.push(0);
+                x.deliver(0);
+                check.same("kind " + kind + ": three ticks more", 0, x.tick() + x.tick() + x.tick());
+                x.deliver(0);
+                Links.loseFrom(x, 0);
+                check.same("kind " + kind + ": OLDEST", i + 1, x.pair(0, 2));
+            }
+            check.same("kind " + kind + ": done", 0, x.pair(0, 5));
+        }
+
+        RemoteReach y = new RemoteReach(20, 0, 1);
+        Links.leaveAnswer(y, Links.NAK, NOT_READY, 1);
+        y.ready(0, 0, 0);
+        y.ready(1, 0, 0);
+        y.send(0, 0, 12);
+        for (int i = 0; i < 2; i++) {
+            y.push(0);
+            y.deliver(1);
+            y.deliver(1);
+            check.same("RESTING for want of a receive", 1 - i, y.pair(0, 7));
+            Links.tick(y, 3);
+            y.receive(1, 0, 12);
+        }
+        check.numbers("a part is answered", y, 0, 3, 1, 1, 0);
+        y.push(0);
+        y.deliver(0);
+        check.same("the first NOT READY since then", 1, y.pair(0, 0));
+        check.same("RESTING", 1, y.pair(0, 7));
+    }
+
+    private static void setsThemByANakThatAnswersUpToARead() {
+        check.sentence("first as an ACK with the number before p (if that is one of them); then, if p is OLDEST");
+        for (int reason = 1; reason <= 4; reason++) {
+            RemoteReach x = new RemoteReach(4, 1, 0);
+            Links.leaveAnswer(x, Links.NAK, reason, 2);
+            x.ready(0, 0, 0);
+            x.move(0, false, 0, 1, 0, 0);
+            x.move(0, true, 0, 1, 0, 0);
+            x.move(0, false, 0, 1, 0, 0);
+            Links.pushAll(x, 0);
+            Links.tick(x, 4);
+            Links.pushAll(x, 0);
+            Links.tick(x, 3);
+            x.deliver(0);
+            check.numbers("reason " + reason + ": the WRITE before the READ is answered", x, 0, 3, 1, 3, 0);
+            check.completion("reason " + reason, x, 0, 0, 1, 0, 0, 1);
+            check.same("the clock is 0", 0, x.tick() + x.tick() + x.tick());
+            check.same("the cursor", 3, x.pair(0, 3));
+            check.same("the tries are 0", 0, x.tick());
+            check.same("the cursor is OLDEST", 1, x.pair(0, 3));
+        }
     }
 
     private static void setsNothingWhenNothingIsAnswered() {

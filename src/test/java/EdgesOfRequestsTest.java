@@ -12,6 +12,7 @@ public final class EdgesOfRequestsTest {
         tellsNoSequenceAgainWhenNoneIsDone();
         acknowledgesPastSendsAndWrites();
         answersPastReadsThatAreAllowed();
+        answersPastReadsThatGoBeyondExpected();
         answersPastAddsOfTheLatestTwo();
         keepsAddsThroughOtherRequests();
         keepsAddsOfTwoRounds();
@@ -239,6 +240,24 @@ public final class EdgesOfRequestsTest {
         check.same("REPLIES for the rest alone", 2, x.packets());
         check.packet("first", x, 0, 0, 4, 1, 4);
         check.packet("second", x, 1, 0, 4, 2, 4);
+    }
+
+    private static void answersPastReadsThatGoBeyondExpected() {
+        check.sentence("a READ by REPLIES, if its region allows it now");
+        for (int d : new int[] {62, 63}) {
+            RemoteReach x = open(0);
+            Links.fill(x, 1, 0, 12, 60);
+            Links.restart(x, 1, 40, 1);
+            int first = (1 + d) % 64;
+            come(x, 2, 12, first);
+            check.same("d = " + d + ": REPLIES for all its numbers", 3, x.packets());
+            for (int i = 0; i < 3; i++) {
+                check.packet("d = " + d, x, i, 0, 4, (first + i) % 64, 4);
+            }
+            check.same("d = " + d + ": EXPECTED", 1, x.pair(1, 4));
+            Links.deliverAll(x);
+            check.same("d = " + d + ": the last cell", 71, x.cell(0, 11));
+        }
     }
 
     private static void answersPastAddsOfTheLatestTwo() {

@@ -92,8 +92,8 @@ final class Links {
     }
 
     /**
-     * Leaves one answer for pair 0 in an empty fabric: a REPLY with 4 cells, an ACK, or a NAK with a
-     * reason. Pairs 0 and 1 are RESET then; node 1, which must have no completions, has a region 5.
+     * Leaves one answer for pair 0 as the fabric's last packet: a REPLY with 4 cells, an ACK, or a NAK with
+     * a reason. Pairs 0 and 1 are RESET then; node 1, which must have no completions, has a region 5.
      */
     static void leaveAnswer(RemoteReach x, int kind, int reason, int number) {
         boolean isEarly = kind == NAK && reason == 1;
@@ -109,7 +109,7 @@ final class Links {
             x.move(0, kind == REPLY, 28, 4, kind == NAK && reason == 3 ? 4 : 5, 28);
         }
         x.push(0);
-        x.deliver(0);
+        x.deliver(x.packets() - 1);
         if (kind == NAK && reason == 4) {
             x.poll(1, -1);
         }
