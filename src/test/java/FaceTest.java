@@ -8,12 +8,15 @@ import java.util.TreeSet;
 /** The public face, as the document writes it, and nothing beside it that others could see. */
 public final class FaceTest {
     private static final Check check = new Check();
+    private static final String ARGUMENT = " throws IllegalArgumentException";
+    private static final String STATE = ARGUMENT + ",IllegalStateException";
     private static final Set<String> METHODS = Set.of(
-        "void region(int,int,int,int,int)", "void store(int,int,int)", "int cell(int,int)", "void ready(int,int,int)",
-        "boolean reset(int)", "int send(int,int,int)", "int move(int,boolean,int,int,int,int)",
-        "int add(int,int,int,int,int)", "int receive(int,int,int)", "int push(int)", "boolean deliver(int)",
-        "boolean spoil(int,boolean)", "int tick()", "int packets()", "int packet(int,int)", "int pair(int,int)",
-        "int completions(int)", "int poll(int,int)");
+        "void region(int,int,int,int,int)" + ARGUMENT, "void store(int,int,int)" + ARGUMENT, "int cell(int,int)",
+        "void ready(int,int,int)" + STATE, "boolean reset(int)", "int send(int,int,int)" + STATE,
+        "int move(int,boolean,int,int,int,int)" + STATE, "int add(int,int,int,int,int)" + STATE,
+        "int receive(int,int,int)" + STATE, "int push(int)", "boolean deliver(int)", "boolean spoil(int,boolean)",
+        "int tick()", "int packets()", "int packet(int,int)", "int pair(int,int)", "int completions(int)",
+        "int poll(int,int)" + ARGUMENT + ",NoSuchElementException");
 
     public static void main(String[] args) {
         Class<?> c = RemoteReach.class;
@@ -42,23 +45,33 @@ public final class FaceTest {
     }
 
     private static String written(Method m) {
-        StringBuilder text = new StringBuilder(m.getReturnType().getName() + " " + m.getName() + "(");
-        for (Class<?> p : m.getParameterTypes()) {
-            text.append(text.charAt(text.length() - 1) == '(' ? "" : ",").append(p.getName());
+        String thrown = listed(m.getExceptionTypes());
+        return m.getReturnType() + " " + m.getName() + "(" + listed(m.getParameterTypes()) + ")"
+            + (thrown.isEmpty() ? "" : " throws " + thrown);
+    }
+
+    private static String listed(Class<?>[] types) {
+        StringBuilder text = new StringBuilder();
+        for (Class<?> type : types) {
+            text.append(text.length() == 0 ? "" : ",").append(type.getSimpleName());
         }
-        return text.append(")").toString();
+        return text.toString();
     }
 
     private static void constructors(Class<?> c) {
         Constructor<?>[] all = c.getDeclaredConstructors();
         check.same("constructors", 1, all.length);
         check.yes("a public one", Modifier.isPublic(all[0].getModifiers()));
-        check.same("its parameters", 3, all[0].getParameterCount());
+        check.text("its parameters", "int,int,int", listed(all[0].getParameterTypes()));
+        check.text("what it throws", "", listed(all[0].getExceptionTypes()));
     }
 
     private static void fields(Class<?> c) {
         for (Field f : c.getDeclaredFields()) {
             boolean isNone = f.getName().equals("NONE");
+            if (isNone) {
+                check.text("NONE", "public static final int RemoteReach.NONE", f.toString());
+            }
             check.same(f + " is private", isNone ? 0 : 1, Modifier.isPrivate(f.getModifiers()) ? 1 : 0);
             check.yes(f + " is final", Modifier.isFinal(f.getModifiers()));
         }
