@@ -21,6 +21,7 @@ public final class EdgesOfTermsTest {
         serialsCountSinceReset();
         requestsTakeNumbersByCells();
         receivesAreAtMost4();
+        begunReceivesAreReceivesStill();
         packetsAreAtMost24();
         repliesAreLostWithoutRoom();
         packetsLieAsTheyWereSent();
@@ -450,6 +451,23 @@ public final class EdgesOfTermsTest {
         check.state("and no more", () -> x.receive(1, 0, 1));
         x.reset(1);
         check.same("serials anew", 0, x.receive(1, 0, 1));
+    }
+
+    private static void begunReceivesAreReceivesStill() {
+        check.sentence("RECEIVES lie in its RECEIVE QUEUE, at most 4, with serials of their own");
+        RemoteReach x = open();
+        for (int i = 0; i < 4; i++) {
+            x.receive(1, 0, 8);
+        }
+        x.send(0, 0, 8);
+        Links.pushAll(x, 0);
+        x.deliver(0);
+        check.same("the begun one is counted", 4, x.pair(1, 6));
+        check.state("a fifth one", () -> x.receive(1, 0, 1));
+        x.deliver(0);
+        check.same("it is completed", 3, x.pair(1, 6));
+        check.same("room for one", 4, x.receive(1, 0, 1));
+        check.same("receives", 4, x.pair(1, 6));
     }
 
     private static void packetsAreAtMost24() {
